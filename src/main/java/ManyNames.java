@@ -747,7 +747,7 @@ public final class ManyNames {
     private int wordsWithin(int names, boolean goodAlone) {
         int sum = 0;
         for (int w = 0; w < words.count; w++) {
-            boolean between = hasBit(names, words.sayer[w]) && hasBit(names, words.seller[w]);
+            boolean between = (words.bothEnds[w] & ~names) == 0;
             sum += oneIf(between && (!goodAlone || words.mark[w] >= held[GOOD]));
         }
         return sum;
@@ -837,6 +837,7 @@ public final class ManyNames {
         final int[] deal = new int[MOST_WORDS];
         final int[] mark = new int[MOST_WORDS];
         final int[] since = new int[MOST_WORDS];
+        final int[] bothEnds = new int[MOST_WORDS];
         final boolean[] firstOfDeal = new boolean[MOST_WORDS];
         int count;
 
@@ -847,6 +848,7 @@ public final class ManyNames {
             firstOfDeal[count] = isNewDeal(number);
             sayer[count] = a;
             seller[count] = about;
+            bothEnds[count] = 1 << a | 1 << about;
             deal[count] = number;
             mark[count] = given;
             since[count] = day;
@@ -893,34 +895,49 @@ public final class ManyNames {
         // With shortest ways first some 600 are the most that can be needed.
         static final int MOST_WAYS = 10000;
 
+        // What is laid, and what is left of it while it is filled: the rooms from each one to each one,
+        // and for each one the bits of those to whom there is room.
         final int[] rooms = new int[SIZE * SIZE];
+        final int[] ways = new int[SIZE];
         final int[] left = new int[SIZE * SIZE];
+        final int[] open = new int[SIZE];
         final int[] from = new int[SIZE];
         final int[] queue = new int[SIZE];
         int reached;
 
         void clear() {
             Arrays.fill(rooms, 0);
+            Arrays.fill(ways, 0);
         }
 
         void give(int a, int room) {
-            rooms[SOURCE * SIZE + a] = room;
+            widen(SOURCE, a, room);
         }
 
         void join(int a, int b, int room) {
-            rooms[a * SIZE + b] += room;
-            rooms[b * SIZE + a] += room;
+            widen(a, b, room);
+            widen(b, a, room);
+        }
+
+        private void widen(int a, int b, int room) {
+            if (room > 0) {
+                rooms[a * SIZE + b] += room;
+                ways[a] |= 1 << b;
+            }
         }
 
         void partCheat() {
             for (int a = 0; a < SIZE; a++) {
                 rooms[a * SIZE + CHEAT] = 0;
                 rooms[CHEAT * SIZE + a] = 0;
+                ways[a] &= ~(1 << CHEAT);
             }
+            ways[CHEAT] = 0;
         }
 
         int most(int heap) {
             System.arraycopy(rooms, 0, left, 0, SIZE * SIZE);
+            System.arraycopy(ways, 0, open, 0, SIZE);
             int sum = 0;
             for (int way = 0; way < MOST_WAYS; way++) {
                 int goal = search(heap);
@@ -932,18 +949,19 @@ public final class ManyNames {
             return sum;
         }
 
-        /** The first one of the heap that the source reaches by a shortest way; NONE. */
+        /** One of the heap that the source reaches by a shortest way; NONE. */
         private int search(int heap) {
             reached = 1 << SOURCE;
             queue[0] = SOURCE;
             int waiting = 1;
-            for (int next = 0; next < waiting; next++) {
+            for (int next = 0; next < waiting && next < SIZE; next++) {
                 int a = queue[next];
-                for (int b = 0; b < SIZE; b++) {
-                    if (hasBit(reached, b) || left[a * SIZE + b] <= 0) {
+                int met = open[a] & ~reached;
+                reached |= met;
+                for (int b = 0; b < SIZE && waiting < SIZE && met >> b != 0; b++) {
+                    if (!hasBit(met, b)) {
                         continue;
                     }
-                    reached |= 1 << b;
                     from[b] = a;
                     if (hasBit(heap, b)) {
                         return b;
@@ -964,9 +982,14 @@ public final class ManyNames {
             }
             b = goal;
             for (int step = 0; step < SIZE && b != SOURCE; step++) {
-                left[from[b] * SIZE + b] -= room;
-                left[b * SIZE + from[b]] += room;
-                b = from[b];
+                int a = from[b];
+                left[a * SIZE + b] -= room;
+                left[b * SIZE + a] += room;
+                open[b] |= 1 << a;
+                if (left[a * SIZE + b] <= 0) {
+                    open[a] &= ~(1 << b);
+                }
+                b = a;
             }
             return room;
         }

@@ -8,6 +8,7 @@ public final class RingsTest {
         oddsOfMany();
         oddest();
         oddestOfFour();
+        neitherTwoNorFive();
         gains();
         gainsOfFined();
         best();
@@ -114,6 +115,20 @@ public final class RingsTest {
         C.due("29 made ones too", x.oddest(0), 30);
     }
 
+    private static void neitherTwoNorFive() {
+        ManyNames x = Place.withNames(0, 0, 0, 0, 0, 0, 0);
+        x.word(0, 1, 0, 9);
+        x.word(5, 6, 1, 0);
+        C.due("29 two would do: three with the least bits", x.oddest(0), 7);
+        x.word(2, 3, 2, 9);
+        x.word(6, 5, 3, 0);
+        x.word(4, 0, 4, 9);
+        // Of 10 ways: two good of two: 3 (four of the names), three of three: 1 (all five).
+        C.due("29 not five", x.oddest(0), 15);
+        C.due("29 numerator", x.oddest(1), 3);
+        C.due("29 denominator", x.oddest(2), 10);
+    }
+
     private static ManyNames market() {
         ManyNames x = Place.withNames(3, 4, 0, 8);
         Place.tell(x, "bought 50;");
@@ -130,6 +145,7 @@ public final class RingsTest {
         C.due("30 behind a tie", x.gain(2, 81, 2), 2 * 30 - 4);
         C.due("30 the seed's room", x.gain(11, 160, 1), 100 - 15);
         C.due("30 three ties", x.gain(11, 81, 1), 40 + 30 + 20 - 15);
+        C.due("30 by 100", x.gain(1, 199, 1), 99 - 3);
         C.due("30 a loss", x.gain(8, 1, 99), -8);
         C.due("30 a value of nought", x.gain(8, 1, 0), -8);
         C.due("30 sells none", x.gain(4, 40, 1), -1000000);

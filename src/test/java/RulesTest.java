@@ -11,6 +11,8 @@ public final class RulesTest {
         bounds();
         faults();
         faultsKeepRules();
+        whatIsCutOff();
+        fullTape();
         ruleNumbers();
         C.finish();
     }
@@ -61,6 +63,9 @@ public final class RulesTest {
         }
         C.due("13 the tape is empty", x.count(9), 0);
         C.due("14 none", x.fault(), 0);
+        C.due("13 an 11th line is told already", Place.tell(x,
+            "met 1;dealt 2;said 3;bought 4;fade 5;word 6;seed 7;pledge 8;fine 9;good 10; met 1;"), -10 - 76);
+        C.due("14 told already", x.fault(), 4);
         C.due("13 other order, no blanks", Place.tell(x, "good7;met0050;"), 2);
         C.due("13 told", x.rule(0), 50);
         C.due("13 told", x.rule(9), 7);
@@ -112,6 +117,8 @@ public final class RulesTest {
         fault("Met 5;", -10, 1);
         fault("mets 5;", -10, 1);
         fault("me 5;", -10, 1);
+        fault("bet 5;", -10, 1);
+        fault("mat 5;", -10, 1);
         fault("metdealt 5;", -10, 1);
         fault("met 12345;", -14, 1);
         fault("met 00005;", -14, 1);
@@ -156,6 +163,38 @@ public final class RulesTest {
         C.due("14 fault again", x.fault(), 3);
         C.due("13 empty then", x.rules(), 0);
         C.due("14 the latest one", x.fault(), 0);
+    }
+
+    /** Bytes behind the end are no part of a token. */
+    private static void whatIsCutOff() {
+        ManyNames x = new ManyNames();
+        Place.write(x, "meta");
+        x.end(3);
+        C.due("12 met, cut off", x.rules(), -13);
+        C.due("12 met, cut off", x.fault(), 2);
+        Place.write(x, "met 55;");
+        x.end(5);
+        C.due("12 met 5, cut off", x.rules(), -15);
+        C.due("12 met 5, cut off", x.fault(), 2);
+        Place.write(x, "met 5;");
+        x.end(5);
+        x.feed(0x3b20202020202020L);
+        C.due("12 and another end", x.rules(), 1);
+        C.due("12 told", x.rule(0), 5);
+    }
+
+    private static void fullTape() {
+        String blanks = " ".repeat(194);
+        ManyNames x = new ManyNames();
+        C.due("13 the last byte", Place.tell(x, blanks + "met 5;"), 1);
+        C.due("13 told", x.rule(0), 5);
+        C.due("13 the end behind a name", Place.tell(x, blanks + "   met"), -210);
+        C.due("14 the end", x.fault(), 2);
+        C.due("13 the end behind a number", Place.tell(x, blanks + " met 5"), -210);
+        C.due("14 the end", x.fault(), 2);
+        C.due("13 blanks", Place.tell(x, blanks + "      "), 0);
+        C.due("13 the last byte is no token", Place.tell(x, blanks + "     #"), -209);
+        C.due("14 no token", x.fault(), 1);
     }
 
     private static void ruleNumbers() {

@@ -76,8 +76,13 @@ public final class SheetsTest {
         C.due("33 a short of 65535 is -1: no deal", x.read(0, 1, 0, 1), -20);
         Place.sheet(x, 0, 2, 1, 0, 65536, 5);
         C.due("33 an int keeps 65536: no deal", x.read(0, 2, 0, 1), -20);
+        Place.sheet(x, 0, 2, 0, 1, 7, 9);
         x.sheet(0, 2, 4);
-        C.due("32 cells are 0 anew", x.read(0, 2, 0, 1), -20);
+        x.lay(0, 0, 1);
+        C.due("32 cells are 0 anew", x.read(0, 2, 0, 1), 1);
+        for (int what = 0; what < 4; what++) {
+            C.due("32 cell " + what, x.wordOf(0, what), what == 0 ? 1 : 0);
+        }
     }
 
     private static void reading() {
@@ -180,6 +185,8 @@ public final class SheetsTest {
         x.read(0, 1, 0, 1);
         C.due("35 cast", x.lost(), 3);
         x.read(4, 0, 0, 1);
+        C.due("35 a bad one came to no end", x.lost(), 3);
+        x.read(0, 0, 0, -1);
         C.due("35 a bad one came to no end", x.lost(), 3);
         C.due("34 refused", x.read(0, 0, 0, 2), -20);
         C.due("35 a refused one came to no end", x.lost(), 3);

@@ -9,6 +9,7 @@ public final class TrustTest {
         heaps();
         cuts();
         cutOfPledges();
+        roomsOfOne();
         lowest();
         twins();
         twinsAreTheMost();
@@ -130,6 +131,26 @@ public final class TrustTest {
         C.due("18 given beyond", x.cut(4, 2), 4);
     }
 
+    /** The least rooms there are still let something through. */
+    private static void roomsOfOne() {
+        ManyNames x = Place.withNames(0, 0, 0);
+        x.seed(0, true);
+        x.tie(0, 1, 1, 0);
+        x.tie(2, 1, 1, 0);
+        x.tie(1, 2, 1, 0);
+        C.due("16 one", x.trust(1), 1);
+        C.due("16 one", x.trust(2), 1);
+        C.due("18 its tie", x.cut(4, 1), 1);
+        C.due("8 its ties", x.of(1, 6), 3);
+        C.due("36 ties", x.count(5), 3);
+        C.due("20 one less", x.twins(0), 16 + 2);
+        C.due("20 one less", x.twins(1), 1);
+        x.pledge(1, 50);
+        C.due("16 two ties side by side, told either way", x.trust(2), 2);
+        x.pledge(2, 50);
+        C.due("16 two ties side by side, told either way", x.trust(1), 1 + 5 + 2);
+    }
+
     private static void lowest() {
         ManyNames x = new ManyNames();
         C.due("19 none", x.low(0), -4);
@@ -147,6 +168,9 @@ public final class TrustTest {
         x.tie(0, 3, 5, 0);
         C.due("19 of several the least number", x.low(0), 2);
         C.due("19 its trust", x.low(1), 5);
+        x.seed(0, false);
+        C.due("19 the first one", x.low(0), 0);
+        x.seed(0, true);
         x.made(2);
         C.due("19 no made one", x.low(0), 3);
         x.seed(3, true);

@@ -12,6 +12,8 @@ public final class WordsTest {
         marks();
         spans();
         spanOfAll();
+        firstNameSays();
+        sellersApart();
         C.finish();
     }
 
@@ -178,6 +180,30 @@ public final class WordsTest {
         C.due("26 what", x.span(4, 0, -1), -1);
         C.due("26 no name", x.span(6, 0, 0), -1);
         C.due("26 no name", x.span(-1, 0, 0), -1);
+    }
+
+    private static void firstNameSays() {
+        ManyNames x = thinPlace();
+        x.word(0, 4, 1, 3);
+        C.due("36 the first word counts", x.count(7), 1);
+        C.due("23 the seed's own", x.weight(4, 0), 100);
+        C.due("25 numerator", x.mark(4, 0), 3);
+        C.due("25 denominator", x.mark(4, 1), 1);
+        C.due("26 least", x.span(4, 1, 0), 0);
+        C.due("26 greatest", x.span(4, 1, 2), 10);
+    }
+
+    /** What is weighed for one seller leaves nothing behind for another one. */
+    private static void sellersApart() {
+        ManyNames x = thinPlace();
+        x.word(1, 4, 1, 10);
+        x.word(3, 5, 2, 2);
+        C.due("25 of 4", x.mark(4, 0), 10);
+        C.due("25 of 5", x.mark(5, 0), 2);
+        C.due("26 of 5", x.span(5, 0, 2), 2);
+        C.due("26 of 4", x.span(4, 0, 0), 10);
+        C.due("23 of 4", x.weight(4, 1), 20);
+        C.due("23 of 5", x.weight(5, 3), 10);
     }
 
     private static void spanOfAll() {
