@@ -1205,15 +1205,15 @@ public final class ManyNames {
             return Math.min(n, (size - f) / 4);
         }
 
-        /** A row of another lane is found as it is taken, the others when a cell is asked for. */
+        /** The machine finds a fault at a cell that is asked for, so that none is found where all words came. */
         int faultOfReading(int sort, int n, int whole) {
-            if (!isNothing() && lane != sort) {
-                return CAST_FAULT;
-            }
             if (whole == n) {
                 return 0;
             }
-            return isNothing() ? NULL_FAULT : INDEX_FAULT;
+            if (isNothing()) {
+                return NULL_FAULT;
+            }
+            return lane == sort ? INDEX_FAULT : CAST_FAULT;
         }
     }
 }

@@ -684,12 +684,10 @@ public final class Model {
         List<Word> came = new ArrayList<>();
         int found = 0;
         try {
-            Class<?> taken = lane == 0 ? byte[].class : lane == 1 ? short[].class : int[].class;
-            Object row = taken.cast(sheets[k]);
             for (int i = 0; i < n; i++) {
                 int[] c = new int[4];
                 for (int j = 0; j < 4; j++) {
-                    c[j] = cell(row, lane, f + 4 * i + j);
+                    c[j] = cell(sheets[k], lane, f + 4 * i + j);
                 }
                 int refused = refused(c[0], c[1], c[2], c[3], words.size() + came.size());
                 if (refused != 0) {

@@ -56,6 +56,9 @@ public final class RandomRunsTest {
             String named = change ? CHANGES[random.nextInt(CHANGES.length)] : "";
             if (named.equals("text")) {
                 i += text(run, face, check);
+            } else if (named.equals("read")) {
+                readAndAsk(run, face, check);
+                i++;
             } else if (change) {
                 call(run, find(face, named), check);
             } else {
@@ -87,6 +90,12 @@ public final class RandomRunsTest {
             return;
         }
         callWith(run, m, args, check);
+    }
+
+    /** What a read() lost is forgotten with the next one, so it is asked for at once. */
+    private void readAndAsk(int run, Method[] face, Check check) throws Exception {
+        call(run, find(face, "read"), check);
+        callWith(run, find(face, "lost"), new Object[0], check);
     }
 
     private void callWith(int run, Method m, Object[] args, Check check) throws Exception {

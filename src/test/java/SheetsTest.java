@@ -195,16 +195,26 @@ public final class SheetsTest {
         C.due("35 none", x.lost(), 0);
     }
 
-    /** The machine finds another lane as the row is taken, and a row of nothing only at its first cell. */
+    /** No word is read, so the machine refuses none, whatever the sheet is, its lane and the cell. */
     private static void readingNothing() {
-        ManyNames x = new ManyNames();
-        C.due("34 nothing of nothing", x.read(0, 1, 5, 0), 0);
-        C.due("35 none", x.lost(), 0);
-        x.sheet(0, 0, 2);
-        C.due("34 nothing beyond", x.read(0, 0, 99, 0), 0);
-        C.due("35 none", x.lost(), 0);
-        C.due("34 nothing of another lane", x.read(0, 1, 0, 0), 0);
-        C.due("35 cast", x.lost(), 3);
+        int[] from = {0, 1, 99, -1, Integer.MAX_VALUE, Integer.MIN_VALUE};
+        // There is no lane -1: the sheet stays nothing.
+        for (int sort = -1; sort < 3; sort++) {
+            for (int lane = 0; lane < 3; lane++) {
+                for (int f : from) {
+                    String where = " words of lane " + sort + " as of " + lane + " from " + f;
+                    ManyNames x = Place.withNames(0, 0);
+                    x.read(2, 0, 0, 1);
+                    C.due("35 null ahead of it", x.lost(), 1);
+                    x.sheet(1, sort, 2);
+                    C.due("34 no" + where, x.read(1, lane, f, 0), 0);
+                    C.due("35 no" + where, x.lost(), 0);
+                    C.due("34 one of" + where, x.read(1, lane, f, 1), 0);
+                    C.due("35 one of" + where, x.lost(), sort < 0 ? 1 : sort == lane ? 2 : 3);
+                    C.due("36 no" + where, x.count(6), 0);
+                }
+            }
+        }
     }
 
     private static void counts() {
