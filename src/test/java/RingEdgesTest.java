@@ -246,6 +246,18 @@ public final class RingEdgesTest {
         y.word(0, 1, 3, 0);
         y.word(2, 3, 4, 0);
         oddest("the last three", y, 0xe00, 1, 6);
+        ManyNames two = Place.withNames(0, 0, 0, 0);
+        two.word(0, 1, 1, 10);
+        two.word(2, 3, 2, 0);
+        oddest("two would do, three are asked for", two, 7, 1, 2);
+        ManyNames five = Place.withNames(0, 0, 0, 0, 0, 0, 0);
+        five.word(0, 1, 1, 10);
+        five.word(2, 3, 2, 10);
+        five.word(3, 4, 3, 10);
+        five.word(5, 6, 4, 0);
+        five.word(6, 5, 5, 0);
+        // 0 to 4 have three good ones of three, one way of ten; four of them have two: 3 of 10.
+        oddest("five would be odder, four are asked for", five, 15, 3, 10);
     }
 
     /** "of several the least bits" */

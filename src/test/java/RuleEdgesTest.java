@@ -260,6 +260,9 @@ public final class RuleEdgesTest {
             refused(name.substring(0, name.length() - 1) + " 5;", 1, 0);
             refused(name + "s 5;", 1, 0);
             refused("a" + name + " 5;", 1, 0);
+            for (int i = 0; i < name.length(); i++) {
+                refused(name.substring(0, i) + "z" + name.substring(i + 1) + " 5;", 1, 0);
+            }
             refused(name.toUpperCase() + " 5;", 1, 0);
             refused("met 5;  " + name.charAt(0) + " 5;", 1, 8);
         }

@@ -11,7 +11,7 @@ final class Still {
         long ask(ManyNames x);
     }
 
-    private static final String[] PARTS = {"counts and rules", "names", "ties", "words", "the tape", "sheets"};
+    private static final String[] PARTS = {"counts and rules", "names", "ties", "words", "the tape", "sheets", "what comes behind"};
 
     private final Check check;
 
@@ -51,8 +51,11 @@ final class Still {
             case 4:
                 lookAtTape(x, seen);
                 break;
-            default:
+            case 5:
                 lookAtSheets(x, seen);
+                break;
+            default:
+                lookBehind(x, seen);
         }
         return seen;
     }
@@ -118,5 +121,27 @@ final class Still {
             }
         }
         lookAtWords(x, seen);
+    }
+
+    /** What comes to the next places is new: nothing lies there from a call that was refused. */
+    private static void lookBehind(ManyNames x, List<Long> seen) {
+        int a = x.name(4);
+        int b = x.name(5);
+        int t = x.tie(b, 0, 50, 2);
+        int w = x.word(b, 0, 98, 9);
+        for (int what = 0; what < 7; what++) {
+            seen.add((long) x.of(a, what));
+            seen.add((long) x.of(b, what));
+            seen.add((long) x.tieOf(t, what));
+            seen.add((long) x.wordOf(w, what));
+        }
+        for (int k = 0; k < 4; k++) {
+            x.sheet(k, k % 3, 4);
+            x.lay(k, 0, 1);
+            seen.add((long) x.read(k, k % 3, 0, 1));
+        }
+        lookAtWords(x, seen);
+        x.feed(0x6d65742037303b20L);
+        lookAtTape(x, seen);
     }
 }

@@ -7,6 +7,7 @@ public final class TrustEdgesTest {
         whoIsTrusted();
         noMoreThanItsRoom();
         bothWays();
+        theMostThatCanCome();
         whereNothingComes();
         theGreatestTrust();
         heapsToTake();
@@ -77,6 +78,23 @@ public final class TrustEdgesTest {
         C.due("16 its own and what comes", y.trust(0), 9);
         C.due("16 its own and all of the other one", y.trust(1), 10);
         C.due("17 both", y.heap(3), 10);
+    }
+
+    /** "the most that can come to it": what went a shorter way is turned aside for it. */
+    private static void theMostThatCanCome() {
+        ManyNames x = Place.withNames(0, 0, 0, 0, 0, 0, 0);
+        x.seed(0, true);
+        x.tie(0, 1, 1, 0);
+        x.tie(1, 4, 1, 0);
+        x.tie(4, 5, 1, 0);
+        x.tie(0, 2, 1, 0);
+        x.tie(2, 6, 1, 0);
+        x.tie(6, 4, 1, 0);
+        x.tie(1, 3, 1, 0);
+        x.tie(3, 5, 1, 0);
+        C.due("16 0-1-3-5 and 0-2-6-4-5", x.trust(5), 2);
+        C.due("17 both ways end in it", x.heap(32 | 64), 2);
+        C.due("18 the seed's two ties", x.cut(32, 1), 1 | 8);
     }
 
     private static void whereNothingComes() {
