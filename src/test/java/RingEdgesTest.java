@@ -212,6 +212,12 @@ public final class RingEdgesTest {
         oddest("four names, all words within 0 and 1", x, -4, -4, -4);
         x.word(2, 3, 3, 0);
         oddest("one word elsewhere", x, 7, 2, 3);
+        ManyNames y = Place.withNames(0, 0, 0);
+        y.word(0, 1, 1, 10);
+        y.word(1, 2, 2, 0);
+        oddest("0 and 1 would do, but not with one that is no name", y, -4, -4, -4);
+        y.name(0);
+        oddest("now it is one", y, 11, 1, 2);
         oddest("no words", Place.withNames(0, 0, 0, 0), -4, -4, -4);
     }
 
@@ -396,7 +402,7 @@ public final class RingEdgesTest {
         Place.tell(x, "bought 100; pledge 100;");
         for (int a = 0; a < 12; a++) {
             x.name(1);
-            x.pledge(a, 3);
+            x.pledge(a, 9);
             C.due("31 gain of " + (a + 1), x.best(3, 1, 0), a < 8 ? 2 * (a + 1) : -2);
             C.due("31 set of " + (a + 1), x.best(3, 1, 1), a < 8 ? (2 << a) - 1 : -2);
         }

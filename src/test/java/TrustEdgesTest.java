@@ -8,6 +8,7 @@ public final class TrustEdgesTest {
         noMoreThanItsRoom();
         bothWays();
         theMostThatCanCome();
+        turnedTwice();
         whereNothingComes();
         theGreatestTrust();
         heapsToTake();
@@ -80,21 +81,43 @@ public final class TrustEdgesTest {
         C.due("17 both", y.heap(3), 10);
     }
 
-    /** "the most that can come to it": what went a shorter way is turned aside for it. */
+    /** "the most that can come to it alone": what went a shorter way first is turned about for it. */
     private static void theMostThatCanCome() {
         ManyNames x = Place.withNames(0, 0, 0, 0, 0, 0, 0);
-        x.seed(0, true);
+        Place.tell(x, "pledge 100;");
+        x.pledge(0, 1);
+        x.pledge(3, 3);
+        x.tie(0, 1, 1, 0);
+        x.tie(1, 2, 1, 0);
+        ways(x, 3, 3, 4, 1);
+        ways(x, 3, 0, 5, 6, 2);
+        // 0-1-2 is the shortest way, but then 1 must give to 0: twice the room of their tie is turned.
+        C.due("16 3-4-1-2, 3-4-1-0-5-6-2, 0-5-6-2", x.trust(2), 3);
+        C.due("18 the ties of 1", x.cut(4, 1), 3);
+        C.due("18 what 0 is given", x.cut(4, 2), 1);
+    }
+
+    /** A tie that was turned about is turned again: by the ways that are the shortest one after the other. */
+    private static void turnedTwice() {
+        ManyNames x = Place.withNames(0, 0, 0, 0, 0, 0, 0, 0, 0, 0, 0);
+        Place.tell(x, "pledge 100;");
+        x.pledge(0, 1);
+        x.pledge(3, 2);
+        x.pledge(5, 1);
         x.tie(0, 1, 1, 0);
         x.tie(1, 4, 1, 0);
-        x.tie(4, 5, 1, 0);
-        x.tie(0, 2, 1, 0);
-        x.tie(2, 6, 1, 0);
-        x.tie(6, 4, 1, 0);
-        x.tie(1, 3, 1, 0);
-        x.tie(3, 5, 1, 0);
-        C.due("16 0-1-3-5 and 0-2-6-4-5", x.trust(5), 2);
-        C.due("17 both ways end in it", x.heap(32 | 64), 2);
-        C.due("18 the seed's two ties", x.cut(32, 1), 1 | 8);
+        ways(x, 2, 3, 1);
+        ways(x, 2, 0, 2, 4);
+        ways(x, 1, 5, 6, 7, 0);
+        ways(x, 1, 1, 8, 9, 10, 4);
+        C.due("16 all that is given", x.trust(4), 4);
+    }
+
+    /** Ties of this room from each one to the next. */
+    private static void ways(ManyNames x, int room, int... names) {
+        for (int i = 1; i < names.length; i++) {
+            x.tie(names[i - 1], names[i], room, 0);
+        }
     }
 
     private static void whereNothingComes() {
