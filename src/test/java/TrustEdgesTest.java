@@ -17,6 +17,7 @@ public final class TrustEdgesTest {
         cutsToRefuse();
         cutOfAll();
         cutThatIsLeast();
+        cutWithoutTheUnreached();
         cutWhereNothingComes();
         cutOfTwentyFourTies();
         cutAddsUp();
@@ -247,6 +248,22 @@ public final class TrustEdgesTest {
         x.tie(3, 2, 1, 0);
         C.due("18 the source alone again", x.cut(8, 0), 0);
         C.due("18 what is given", x.cut(8, 2), 8);
+    }
+
+    /** "the least set": a name to which nothing comes is not of it, whichever it is. */
+    private static void cutWithoutTheUnreached() {
+        for (int apart = 0; apart < 12; apart++) {
+            ManyNames x = Place.withNames(0, 0, 0, 0, 0, 0, 0, 0, 0, 0, 0, 0);
+            int seed = (apart + 1) % 12;
+            int end = (apart + 2) % 12;
+            x.seed(seed, true);
+            x.tie(seed, end, 5, 0);
+            x.tie(apart, end, 9, 0);
+            C.due("18 of it, without " + apart, x.cut(1 << end, 0), 1 << seed);
+            C.due("18 its ties, without " + apart, x.cut(1 << end, 1), 1);
+            C.due("18 where nothing comes, without " + apart, x.cut(1 << (apart + 3) % 12, 0),
+                1 << seed | 1 << end | 1 << apart);
+        }
     }
 
     /** "whose way out has no more ROOM than TRUST of the HEAP": of none, if nothing comes. */
